@@ -237,6 +237,7 @@ public final class PromiseTests {
         due("going(0, 9)", x.going(0, 9), 10);
         due("going(7, 5)", x.going(7, 5), 3);
         due("going(5, 5)", x.going(5, 5), 0);
+        due("going(9, 0)", x.going(9, 0), 10);
         x.set(7, 9);
         due("going(7, 5) of a slow lift", x.going(7, 5), 11);
         due("going(5, 5) of a slow lift", x.going(5, 5), 0);
@@ -316,6 +317,18 @@ public final class PromiseTests {
         due("warm no more", x.at(2, 1), 0);
         due("served no more", x.at(2, 2), 0);
         due("one at the second", x.at(1, 2), 1);
+        TrolleyAtEleven y = housed("fo4200;fo4200;fo4010;u0080;b606060;");
+        due("at(1, 0), 40 cups in all", y.at(1, 0), 21);
+        due("at(2, 1), filled again", y.at(2, 1), 90);
+        TrolleyAtEleven z = housed("fo4010;fo4200;u0081;b606060;r200;");
+        // Filled at 6, at the second at 7 with 19.
+        due("at(0, 1), half of 171", z.at(0, 1), 85);
+        due("at(1, 1), half of 175", z.at(1, 1), 87);
+        due("at(1, 0)", z.at(1, 0), 7);
+        z.people(1, 19);
+        due("at(1, 1), 20 more were enough", z.at(1, 1), 85);
+        z.set(1, 82);
+        due("at(0, 1), half of 172", z.at(0, 1), 86);
         due("no filling when just enough", housed("fo4200;u2010;").at(0, 1), 10);
         due("filling when one too few", housed("fo4200;u1910;").at(0, 1), 90);
     }
@@ -392,6 +405,10 @@ public final class PromiseTests {
         due("turned(1)", x.turned(1), 2);
         due("turned(2)", x.turned(2), 1);
         due("most()", x.most(), 2);
+        x.set(1, 59);
+        for (int floor = 0; floor < 3; floor++) due("turned(" + floor + ") of cold tea", x.turned(floor), 3);
+        due("most() of cold tea", x.most(), 3);
+        due("most() of one floor", housed("fo4010;u4059;").most(), 1);
         x.set(0, 0);
         x.set(8, 0);
         for (int floor = 0; floor < 3; floor++) due("turned(" + floor + ") of none served", x.turned(floor), 0);
@@ -416,6 +433,8 @@ public final class PromiseTests {
         due("enough(1) of too many", y.enough(1), -9);
         y.set(2, 20);
         due("enough(1) up to the greatest", y.enough(1), 60);
+        y.set(2, 19);
+        due("enough(1) of one too many", y.enough(1), -9);
         due("enough(2) of greedy ones", housed("fg4090;b000000;").enough(2), 13);
         for (int sort : new int[] {-1, 3, LEAST, GREATEST}) refused(x, "enough(" + sort + ")", () -> x.enough(sort), -2);
     }
@@ -463,6 +482,10 @@ public final class PromiseTests {
         TrolleyAtEleven z = housed("fo4200;fg4200;b600000;");
         due("keep(0) of greedy ones", z.keep(0), 0);
         due("keep(1) of greedy ones", z.keep(1), 30);
+        // The first takes 30 of 40, or leaves as many as are kept.
+        TrolleyAtEleven most = housed("fg4200;fg4200;b400000;");
+        due("keep(0) up to the greatest", most.keep(0), 20);
+        due("keep(1) up to the greatest", most.keep(1), 20);
         for (int what : new int[] {-1, 2, LEAST, GREATEST}) refused(y, "keep(" + what + ")", () -> y.keep(what), -2);
     }
 
@@ -474,6 +497,9 @@ public final class PromiseTests {
         x.set(9, 2);
         // 3 of 4 greedy ones take 8 and leave 2 to 8; one each: 4, and 6 of 8.
         due("oneEach() if some are kept", x.oneEach(), 1 + 6 - 2);
+        due("oneEach() of too few", housed("fg4080;fo4080;b020000;").oneEach(), 11 - 10);
+        due("oneEach() of just enough", housed("fg4080;b040000;").oneEach(), 2);
+        due("oneEach() of plenty", housed("fg4080;").oneEach(), 0);
         due("oneEach() of offices", housed("fo4080;b000000;").oneEach(), 0);
         due("nothing changes", x.total(5), 7);
     }
@@ -515,6 +541,8 @@ public final class PromiseTests {
         due("late(1, 1) of tenths", x.late(1, 1), 5);
         x.set(6, 1);
         due("late(1, 0) whichever way she goes now", x.late(1, 0), 117);
+        due("late(1, 0) of one tenth", housed("fo5010;").late(1, 0), 21);
+        due("late(1, 1) of one tenth", housed("fo5010;").late(1, 1), 10);
         due("late(5, 1) of a half", housed("fo5010;").late(5, 1), 2);
         due("late(5, 0) of a half", housed("fo5010;").late(5, 0), 5);
         for (int t : new int[] {-1, LEAST}) refused(x, "late(" + t + ", 9)", () -> x.late(t, 9), -4, FAR + 4);
