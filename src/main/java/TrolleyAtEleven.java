@@ -628,7 +628,8 @@ public final class TrolleyAtEleven {
         }
 
         private int warmNow() {
-            return Math.max(0, warmWhenFilled - (clock - filledAt) / 4);
+            int warmth = warmWhenFilled - (clock - filledAt) / 4;
+            return warmth < 0 ? 0 : warmth;
         }
 
         private void refill(int filling) {
