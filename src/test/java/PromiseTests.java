@@ -1,66 +1,12 @@
 import java.util.function.LongSupplier;
 
 /** For each promise: ordinary inputs, the edges that the document names, and wrong inputs. */
-public final class PromiseTests {
-    private static final long FAR = 4000000000000000000L;
-    private static final int LEAST = Integer.MIN_VALUE;
-    private static final int GREATEST = Integer.MAX_VALUE;
-    private static final String SIX = "fo4122;fm7091;ft2153;fd9040;fg1120;fq5080;";
-    private static int wrong = 0;
-    private static int checked = 0;
-    private static String promise = "";
-
-    private static void due(String call, long got, long want) {
-        checked++;
-        if (got == want) return;
-        wrong++;
-        System.out.println(promise + ": " + call + " answered " + got + ", due is " + want);
-    }
-
-    private static TrolleyAtEleven tell(TrolleyAtEleven x, String text) {
-        for (int i = 0; i < text.length(); i++) x.letter(text.charAt(i));
-        return x;
-    }
-
-    private static int told(TrolleyAtEleven x, String text) {
-        return tell(x, text).house();
-    }
-
-    private static TrolleyAtEleven housed(String text) {
-        TrolleyAtEleven x = new TrolleyAtEleven();
-        int answer = told(x, text);
-        if (answer < 0) due("house() of " + text, answer, 1);
-        return x;
-    }
-
-    /** All that can be seen of an object but its refusals. */
-    private static String seen(TrolleyAtEleven x) {
-        StringBuilder all = new StringBuilder();
-        for (int what = 0; what <= 9; what++) all.append(x.count(what)).append(' ');
-        for (int floor = 0; floor < x.count(0); floor++) {
-            for (int what = 0; what <= 4; what++) all.append(x.story(floor, what)).append(' ');
-            all.append(x.place(floor)).append(' ');
-        }
-        for (int what = 0; what <= 7; what++) all.append(x.total(what)).append(' ');
-        all.append(x.fits(-1)).append(' ').append(x.going(0, 9));
-        return all.toString();
-    }
-
-    private static int[] refusalsOf(TrolleyAtEleven x) {
-        int[] refusals = new int[7];
-        for (int r = 1; r <= 6; r++) refusals[r] = x.count(10 + r);
-        return refusals;
-    }
-
-    /** The call answers so, one refusal more is counted, of that number, and nothing else changes. */
+public final class PromiseTests extends Checks {
+    /** The call answers so and counts; that it changes nothing else is seen in RefusalTests. */
     private static void refused(TrolleyAtEleven x, String call, LongSupplier calling, int refusal, long answer) {
-        String before = seen(x);
-        int[] were = refusalsOf(x);
+        int before = x.count(10 - refusal);
         due(call, calling.getAsLong(), answer);
-        were[-refusal]++;
-        int[] are = refusalsOf(x);
-        for (int r = 1; r <= 6; r++) due(call + ", then count(" + (10 + r) + ")", are[r], were[r]);
-        due(call + ", then all as before", seen(x).equals(before) ? 1 : 0, 1);
+        due(call + ", then count(" + (10 - refusal) + ")", x.count(10 - refusal), before + 1);
     }
 
     private static void refused(TrolleyAtEleven x, String call, LongSupplier calling, int refusal) {
@@ -251,10 +197,6 @@ public final class PromiseTests {
         for (int[] p : room) refused(x, "going(" + p[0] + ", " + p[1] + ")", () -> x.going(p[0], p[1]), -6);
     }
 
-    private static void totals(TrolleyAtEleven x, int... want) {
-        for (int what = 0; what < want.length; what++) due("total(" + what + ")", x.total(what), want[what]);
-    }
-
     /** She is there at 2, serves 11 in 6 and 4 minutes, goes 3 more, is at the greedy at 15, who take 3 each. */
     private static void total() {
         totals(new TrolleyAtEleven(), 0, 0, 0, 0, 0, 0, 0, 0);
@@ -389,10 +331,6 @@ public final class PromiseTests {
         due("best(3)", z.best(3), 5);
         // 5 served in 3 minutes, or 1 in 1 and 4 in 2; 1 missed and 5 cold either way.
         due("best(7)", z.best(7), 3 + 10 + 4);
-    }
-
-    private static void bestOrder(TrolleyAtEleven x, int what, int... want) {
-        for (int i = 0; i < want.length; i++) due("bestAt(" + what + ", " + i + ")", x.bestAt(what, i), want[i]);
     }
 
     private static void turned() {
@@ -712,11 +650,6 @@ public final class PromiseTests {
         for (int r = 0; r < 6; r++) due("count(" + (11 + r) + ")", x.count(11 + r), refusals[r]);
     }
 
-    private static void run(String name, Runnable test) {
-        promise = name;
-        test.run();
-    }
-
     public static void main(String[] args) {
         run("1 a new object", PromiseTests::newObject);
         run("2 letter", PromiseTests::letter);
@@ -751,7 +684,6 @@ public final class PromiseTests {
         run("31 lots", PromiseTests::lots);
         run("32 and 33 image, on", PromiseTests::image);
         run("34 count", PromiseTests::count);
-        System.out.println(checked + " answers looked at, " + wrong + " not as due");
-        if (wrong != 0) System.exit(1);
+        end();
     }
 }
