@@ -1,6 +1,7 @@
+import java.util.Arrays;
+
 /** What is asked of a house, on both sides of each bound: which of several is told, the least, the most, none. */
 public final class AskTests extends Checks {
-
     private static TrolleyAtEleven with(TrolleyAtEleven x, int... whatAndValue) {
         for (int i = 0; i + 1 < whatAndValue.length; i += 2) x.set(whatAndValue[i], whatAndValue[i + 1]);
         return x;
@@ -243,6 +244,22 @@ public final class AskTests extends Checks {
             due("total(5) of " + buns + ", nothing changes", x.total(5), now[buns]);
         }
         due("oneEach() of who take one anyway", housed("fo4200;b050000;").oneEach(), 0);
+        for (String house : new String[] {"fg4080;fo4030;", "fo4030;fg4080;", "fg4050;fo4020;fg5040;", "fd4020;fg4060;fm5039;"}) {
+            for (int iced = 0; iced <= 12; iced += 2) {
+                for (int plain = 0; plain <= 6; plain += 3) {
+                    for (int kept = 0; kept <= 6; kept += 2) oneEachBesideTelephones(house, 2, iced, 4, plain, 3, 1, 9, kept);
+                }
+            }
+        }
+    }
+
+    /** A TELEPHONE is as a GREEDY floor, but for the BUNS each takes: 1. */
+    private static void oneEachBesideTelephones(String house, int... whatAndValue) {
+        TrolleyAtEleven x = with(housed(house), whatAndValue);
+        TrolleyAtEleven telephones = with(housed(house.replace("fg", "ft")), whatAndValue);
+        String call = "oneEach() of " + house + Arrays.toString(whatAndValue);
+        due(call, x.oneEach(), x.total(5) - telephones.total(5));
+        due(call + " by telephones", telephones.oneEach(), 0);
     }
 
     /** "twice their LEVEL and 1 MINUTES each"; "that less STANDING (may be below 0)". */

@@ -6,7 +6,9 @@ import java.nio.charset.StandardCharsets;
 import java.nio.file.Files;
 import java.nio.file.Path;
 import java.util.Arrays;
+import java.util.Map;
 import java.util.Set;
+import java.util.TreeMap;
 import java.util.TreeSet;
 import java.util.regex.Matcher;
 import java.util.regex.Pattern;
@@ -23,7 +25,9 @@ public final class LanguageCheck {
     private static final String[] BARRED = {"\\bthrows?\\b", "\\btry\\b", "\\bcatch\\b", "\\bfinally\\b",
         "\\bsynchronized\\b", "\\bassert\\b", "\\bimport\\b", "\\bpackage\\b", "->", "::", "\\bprotected\\b", "\\bvar\\b",
         "\\bObject\\b", "\\bThread\\b", "\\bSystem\\.(?!arraycopy\\b)", "\\bInteger\\.[A-Z]", "Exact\\b", "\\bstatic \\{",
-        "\"", "\\bhashCode\\b", "\\btoString\\b", "\\bequals\\b", "\\bnull\\b"};
+        "\"", "\\bhashCode\\b", "\\btoString\\b", "\\bequals\\b", "\\bnull\\b", "\\b(float|double)\\b",
+        "\\b(String|StringBuilder|Arrays|List|ArrayList|Iterator|Class|Runtime)\\b"};
+    private static final int MOST_DEPTH = 8;
     private static int wrong = 0;
 
     private static void must(boolean holds, String what) {
@@ -79,7 +83,7 @@ public final class LanguageCheck {
 
     private static void text(String text) {
         for (int i = 0; i < text.length(); i++) must(text.charAt(i) < 128, "only signs below 128, at " + i);
-        String code = text.replaceAll("(?s)/\\*.*?\\*/", "").replaceAll("//[^\n]*", "");
+        String code = withoutComments(text);
         for (String barred : BARRED) {
             Matcher m = Pattern.compile(barred).matcher(code);
             must(!m.find(), "nothing of " + barred);
@@ -92,11 +96,59 @@ public final class LanguageCheck {
         }
     }
 
+    private static String withoutComments(String text) {
+        return text.replaceAll("(?s)/\\*.*?\\*/", "").replaceAll("//[^\n]*", "");
+    }
+
+    /** Each method's text; those of one name are taken as one. */
+    private static Map<String, String> bodies(String code) {
+        Map<String, String> all = new TreeMap<>();
+        Matcher m = Pattern.compile("(?m)^ +(?:[a-z]+ )*[\\w\\[\\]]+ (\\w+)\\([^()]*\\) \\{$").matcher(code);
+        while (m.find()) {
+            int open = 1;
+            int end = m.end();
+            while (end < code.length() && open > 0) {
+                char c = code.charAt(end++);
+                open += c == '{' ? 1 : c == '}' ? -1 : 0;
+            }
+            all.merge(m.group(1), code.substring(m.end(), end), String::concat);
+        }
+        return all;
+    }
+
+    /** How many calls stand open at once from here on, those of the library too; too many if one calls itself. */
+    private static int depth(String name, Map<String, String> bodies, int open) {
+        if (open > MOST_DEPTH) return 1;
+        int deepest = 0;
+        Matcher m = Pattern.compile("(\\w+)\\(").matcher(bodies.getOrDefault(name, ""));
+        while (m.find()) {
+            boolean called = bodies.containsKey(m.group(1)) || m.start() > 0 && bodies.get(name).charAt(m.start() - 1) == '.';
+            if (called) deepest = Math.max(deepest, depth(m.group(1), bodies, open + 1));
+        }
+        return 1 + deepest;
+    }
+
+    /** No recursion, calls at most eight deep, and objects made with the program's object alone. */
+    private static void calls(String text) {
+        String code = withoutComments(text);
+        Map<String, String> bodies = bodies(code);
+        for (String told : FACE) {
+            String name = told.substring(told.indexOf(' ') + 1, told.indexOf('('));
+            must(bodies.containsKey(name), name + " has a text");
+            must(depth(name, bodies, 1) <= MOST_DEPTH, "at most eight deep: " + name);
+        }
+        for (Map.Entry<String, String> e : bodies.entrySet()) {
+            must(!Pattern.compile("\\bnew\\b").matcher(e.getValue()).find(), "no call makes an object: " + e.getKey());
+        }
+    }
+
     public static void main(String[] args) throws IOException {
         String main = args.length > 0 ? args[0] : "src/main/java/TrolleyAtEleven.java";
         face();
         sizes();
-        text(new String(Files.readAllBytes(Path.of(main)), StandardCharsets.UTF_8));
+        String text = new String(Files.readAllBytes(Path.of(main)), StandardCharsets.UTF_8);
+        text(text);
+        calls(text);
         System.out.println(wrong + " rules not kept");
         if (wrong != 0) System.exit(1);
     }
