@@ -321,6 +321,12 @@ public final class AskTests extends Checks {
         due("more(0), each is one more missed", x.more(0), 0);
         TrolleyAtEleven t = with(housed("ft4010;"), 0, 2, 8, 0);
         due("more(0), half of 4 come", t.more(0), 3);
+        // 9 come in 5, 7 of 10 in 5, the meeting in 10: 3 and 3 missed. 10 in 5, 6 of 10 in 4, nobody in 9: 4 missed.
+        TrolleyAtEleven fewer = housed("ft4180;fo4101;fm4030;u1690;r000;");
+        due("total(2), the meeting is missed", fewer.total(2), 6);
+        due("more(0), with fewer missed than now", fewer.more(0), 2);
+        fewer.people(0, 20);
+        due("total(2), nobody comes to the meeting", fewer.total(2), 4);
         // 7: the director in 6, 5 missed, the meeting in 10, 3 missed. 8: nobody in 9. 9: 7 and 3. 10: 8. 11: 1 and 8.
         TrolleyAtEleven z = housed("fo4070;fd5080;fm5032;u1090;r000;");
         int[] missed = {8, 6, 10, 8, 9};
